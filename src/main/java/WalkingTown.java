@@ -1193,7 +1193,7 @@ public final class WalkingTown {
         /** The first TRIP of the way of p from a CORNER; NONE, if no way is at WORK ahead of walking. */
         int firstTrip(int p, int corner, int minute, int notAhead) {
             weigh(p);
-            int least = minute + walkMinutes(p, corner, town.people.work[p]);
+            int least = Math.min(Town.NEVER, minute + walkMinutes(p, corner, town.people.work[p]));
             int first = NONE;
             for (int k = 0; k < size; k++) {
                 int t = trip[k];
