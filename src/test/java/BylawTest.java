@@ -81,6 +81,10 @@ public final class BylawTest {
         bad("carry if hold;", 9, 1);
         bad("carry if not;", 12, 1);
         bad("carryonly;", 0, 1);
+        bad("carryz;", 0, 1);
+        bad("carrya;", 0, 1);
+        bad("carry0;", 0, 1);
+        bad("fare 0009a;", 5, 1);
         bad("carry if abcdefghi;", 9, 1);
         bad("dock 5 if car;", 7, 1);
         bad("dock 5;stop;dock 5;", 12, 3);
@@ -136,6 +140,9 @@ public final class BylawTest {
         bad(times(300, " ") + "X", 300, 1);
         bad("X" + times(320, " "), 0, 1);
         bad(times(340, " "), 300, 1);
+        bad(times(300, ";"), 0, 1);
+        bad("stop if " + times(292, "("), 18, 4);
+        bad("stop if " + times(332, ")"), 8, 1);
         bad("dock 1;" + times(290, " ") + "dock 12;", 297, 3);
     }
 

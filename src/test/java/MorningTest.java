@@ -30,6 +30,9 @@ public final class MorningTest {
         stoppedTimes();
         fundIsFull();
         latestMorning();
+        lastMinuteOnFoot();
+        manyWays();
+        fullTown();
         DUE.end();
     }
 
@@ -601,5 +604,83 @@ public final class MorningTest {
         town.morning();
         DUE.is("none of it", town.rode(0), -1);
         DUE.is("rode(1)", town.rode(1), 2);
+    }
+
+    private static void lastMinuteOnFoot() {
+        WalkingTown town = row(2, 66);
+        Due.person(town, 0, 2, 0, 600, 719, 0);
+        Due.numbers(town, 600, 719, 60, 5, 0, 0);
+        town.person(0, 2, 0);
+        WalkingTown other = row(1, 80);
+        other.street(1, 2, 40);
+        Due.numbers(other, 600, 719, 60, 5, 0, 0);
+        other.person(0, 2, 0);
+        Due.numbers(other, 599, 719, 60, 5, 0, 0);
+        other.person(0, 2, 0);
+        town.morning();
+        person("in MINUTE 838", town, 0, 838, 119, 132, 0);
+        person("behind the end", town, 1, -1, 121, 132, 0);
+        other.morning();
+        person("in MINUTE 840", other, 0, -1, 121, 120, 0);
+        person("in MINUTE 839", other, 1, 839, 120, 120, 0);
+    }
+
+    /** Of TRIPS told in no order, the way by two that are neither the first nor the last from their STOPS. */
+    private static void manyWays() {
+        WalkingTown town = row(2, 90);
+        town.give(900);
+        int[] minutes = {140, 100, 120, 160, 40};
+        for (int i = 0; i < minutes.length; i++) {
+            town.wheel(0, 0, 9, -1);
+            town.trip(2 * i, 0, 1, minutes[i], 0, 0);
+            town.wheel(0, 1, 9, -1);
+            town.trip(2 * i + 1, 1, 2, minutes[i] + 26, 0, 0);
+        }
+        Due.person(town, 0, 2, 0, 101, 193, 0);
+        Due.numbers(town, 101, 500, 30, 5, 0, 1);
+        town.person(0, 2, 0);
+        DUE.is("morning()", town.morning(), 2);
+        person("by 120 and 166", town, 0, 193, 0, 0, 2);
+        DUE.is("rode(4)", town.rode(4), 1);
+        DUE.is("rode(5), a minute too early", town.rode(5), 0);
+        DUE.is("rode(1)", town.rode(1), 1);
+        person("has not heard of them", town, 1, 425, 0, 180, 0);
+    }
+
+    private static void fullTown() {
+        WalkingTown town = row(7, 99);
+        town.give(100000);
+        for (int w = 0; w < 20; w++) {
+            town.wheel(w % 3, w % 8, 9, 199);
+        }
+        for (int t = 0; t < 80; t++) {
+            int from = (t % 20 + t / 20) % 8;
+            town.trip(t % 20, from, (from + 1) % 8, 100 + 150 * (t / 20), 0, 199);
+        }
+        for (int p = 0; p < 40; p++) {
+            Due.person(town, p % 8, (p + 3) % 8, 9, 60 + p, 719, 99);
+        }
+        for (int day = 0; day < 9; day++) {
+            for (int w = 0; w < 20; w++) {
+                town.tried(w);
+            }
+            int onTime = town.morning();
+            int came = 0;
+            for (int p = 0; p < 40; p++) {
+                came += town.of(p, 0) >= 0 && town.of(p, 1) == 0 ? 1 : 0;
+            }
+            DUE.is("as many as are not late", onTime, came);
+            town.next(1);
+        }
+        int rides = 0;
+        for (int p = 0; p < 40; p++) {
+            rides += town.of(p, 3);
+        }
+        int left = 0;
+        for (int t = 0; t < 80; t++) {
+            left += Math.max(0, town.rode(t));
+        }
+        DUE.is("rides of persons and of trips", rides, left);
+        DUE.is("somebody rode", rides > 40, true);
     }
 }
