@@ -1550,90 +1550,145 @@ public final class WalkingTown {
         final Town town;
         /** By STOPS: the PERSONS who can walk there in time, a bit each. */
         final long[] reach;
+        /** STOPS that can come: one whose PERSONS all reach a lesser one is never in the first of like ones. */
+        final int[] kept;
+        int keptCount;
+        /** By sets of STOPS: how many PERSONS reach one of them. */
+        final int[] near;
         final int[] seats;
         /** Seats of the WHEELS from each one on. */
         final int[] seatsLeft;
-        final int[] tried;
+        /** By sets of the first k WHEELS, with 1 << k above their bits: their STOPS. */
+        final int[] stopsOf;
+        /** By the same sets: seats of those of the first k WHEELS that are not in the set. */
+        final int[] outside;
+        /** Places in the row of STOPS that can come. */
+        final int[] place;
         final int[] found;
-        /** For each set of WHEELS (its bits, 1 above them all): the PERSONS who reach one of them. */
-        final long[] reached;
         int size;
-        int best;
         int people;
+        int best;
 
         Seating(Town itsTown) {
             town = itsTown;
             reach = new long[Town.MOST_STOPS];
+            kept = new int[Town.MOST_STOPS];
+            near = new int[1 << Town.MOST_STOPS];
             seats = new int[MOST_WHEELS];
             seatsLeft = new int[MOST_WHEELS + 1];
-            tried = new int[MOST_WHEELS];
+            stopsOf = new int[2 << MOST_WHEELS];
+            outside = new int[2 << MOST_WHEELS];
+            place = new int[MOST_WHEELS];
             found = new int[MOST_WHEELS];
-            reached = new long[2 << MOST_WHEELS];
         }
 
         int seat(int[] wheels, int wheelCount, int minutes) {
             size = wheelCount;
+            readySeats(wheels);
+            readyStops(minutes);
+            best = NONE;
+            put(0, 0);
+            return best;
+        }
+
+        private void readySeats(int[] wheels) {
             seatsLeft[size] = 0;
             for (int k = size - 1; k >= 0; k--) {
                 seats[k] = town.wheels.seats[wheels[k]];
                 seatsLeft[k] = seatsLeft[k + 1] + seats[k];
             }
-            long all = 0;
-            for (int s = 0; s < town.stops; s++) {
-                reach[s] = whoReaches(s, minutes);
-                all |= reach[s];
-            }
-            people = Long.bitCount(all);
-            best = NONE;
-            reached[1] = 0;
-            put(0);
-            return best;
-        }
-
-        private long whoReaches(int stop, int minutes) {
-            int rain = town.rainOn(town.today);
-            long who = 0;
-            for (int p = 0; p < town.people.size; p++) {
-                int length = town.roads.between(town.people.home[p], town.corners[stop]);
-                if (Town.minutesFor(length, town.pace(p, rain)) <= minutes) {
-                    who |= 1L << p;
+            stopsOf[1] = 0;
+            outside[1] = 0;
+            for (int k = 0; k < size; k++) {
+                int sets = 1 << k;
+                for (int set = sets; set < 2 * sets; set++) {
+                    outside[set + sets] = outside[set] + seats[k];
+                    outside[set + 2 * sets] = outside[set];
                 }
             }
-            return who;
+        }
+
+        private void readyStops(int minutes) {
+            int rain = town.rainOn(town.today);
+            Arrays.fill(reach, 0L);
+            for (int p = 0; p < town.people.size; p++) {
+                int pace = town.pace(p, rain);
+                for (int s = 0; s < town.stops; s++) {
+                    int length = town.roads.between(town.people.home[p], town.corners[s]);
+                    if (Town.minutesFor(length, pace) <= minutes) {
+                        reach[s] |= 1L << p;
+                    }
+                }
+            }
+            keptCount = 0;
+            for (int s = 0; s < town.stops; s++) {
+                if (!isCovered(s)) {
+                    kept[keptCount] = s;
+                    keptCount++;
+                }
+            }
+            countNear();
+        }
+
+        private boolean isCovered(int stop) {
+            for (int s = 0; s < stop; s++) {
+                if ((reach[stop] & ~reach[s]) == 0) {
+                    return true;
+                }
+            }
+            return false;
+        }
+
+        private void countNear() {
+            for (int set = 0; set < 1 << town.stops; set++) {
+                long who = 0;
+                for (int s = 0; s < town.stops; s++) {
+                    if ((set >> s & 1) == 1) {
+                        who |= reach[s];
+                    }
+                }
+                near[set] = Long.bitCount(who);
+                people = near[set];
+            }
         }
 
         /** Puts the k-th WHEEL and those behind it; what can't be above the best is left aside. */
-        private void put(int k) {
+        private void put(int k, int seatedAhead) {
             if (k >= size) {
-                best = mostSeated(k);
-                System.arraycopy(tried, 0, found, 0, size);
+                best = seatedAhead;
+                for (int i = 0; i < size; i++) {
+                    found[i] = kept[place[i]];
+                }
                 return;
             }
-            for (int s = 0; s < town.stops; s++) {
-                tried[k] = s;
-                int sets = 1 << k;
-                for (int set = sets; set < 2 * sets; set++) {
-                    reached[set + sets] = reached[set];
-                    reached[set + 2 * sets] = reached[set] | reach[s];
-                }
-                if (Math.min(people, mostSeated(k + 1) + seatsLeft[k + 1]) > best) {
-                    put(k + 1);
+            for (int i = firstPlace(k); i < keptCount; i++) {
+                place[k] = i;
+                int most = Math.min(seatedAhead + seats[k], mostWith(k, kept[i]));
+                if (Math.min(people, most + seatsLeft[k + 1]) > best) {
+                    put(k + 1, most);
                 }
             }
         }
 
-        /** The least, over sets of the first k WHEELS, of who reaches the set and the seats outside it. */
-        private int mostSeated(int k) {
-            int least = people;
-            int sets = 1 << k;
-            for (int set = 0; set < sets; set++) {
-                int sum = Long.bitCount(reached[sets + set]);
-                for (int i = 0; i < k; i++) {
-                    if ((set >> i & 1) == 0) {
-                        sum += seats[i];
-                    }
+        /** Of two WHEELS with like SEATS the first one has not the higher STOP: else they could change. */
+        private int firstPlace(int k) {
+            for (int i = k - 1; i >= 0; i--) {
+                if (seats[i] == seats[k]) {
+                    return place[i];
                 }
-                least = Math.min(least, sum);
+            }
+            return 0;
+        }
+
+        /** How many are seated is the least, over sets of WHEELS, of who is near the set and the seats outside it. */
+        private int mostWith(int k, int stop) {
+            int sets = 1 << k;
+            int least = people;
+            for (int set = sets; set < 2 * sets; set++) {
+                int with = stopsOf[set] | 1 << stop;
+                stopsOf[set + sets] = stopsOf[set];
+                stopsOf[set + 2 * sets] = with;
+                least = Math.min(least, near[with] + outside[set]);
             }
             return least;
         }
