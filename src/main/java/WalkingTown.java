@@ -351,6 +351,8 @@ public final class WalkingTown {
         static final int MOST_AGE = 99;
         static final int MOST_SHOES = 9;
         static final int MOST_LAG = 9;
+        /** Tenths of a mile that take one of one's SHOES. */
+        static final int WEARING_WAY = 300;
         static final int LAST_WHAT = 6;
 
         int size;
@@ -604,15 +606,16 @@ public final class WalkingTown {
             return day < wetDays ? drops[day] : MOST_RAIN;
         }
 
-        int pace(int p, int rain) {
+        /** By SHOES that are given, for those of a MORNING that is only TRIED are not those of the town. */
+        static int paceFor(int age, int shoes, int rain) {
             int pace = 18 + rain;
-            if (people.age[p] > 40) {
-                pace += (people.age[p] - 40) / 10;
+            if (age > 40) {
+                pace += (age - 40) / 10;
             }
-            if (people.shoes[p] == 1) {
+            if (shoes == 1) {
                 pace += 4;
             }
-            if (people.shoes[p] == 0) {
+            if (shoes == 0) {
                 pace += 9;
             }
             return pace;
@@ -1150,9 +1153,6 @@ public final class WalkingTown {
 
         void layOut(int leftOut) {
             int rain = town.rainOn(town.today);
-            for (int p = 0; p < town.people.size; p++) {
-                pace[p] = town.pace(p, rain);
-            }
             size = 0;
             for (int t = 0; t < town.trips.size; t++) {
                 boolean goes = town.trips.runs(t, town.today) && town.trips.wheel[t] != leftOut;
@@ -1184,6 +1184,10 @@ public final class WalkingTown {
                 }
             }
             return NONE;
+        }
+
+        void setPace(int p, int shoes) {
+            pace[p] = Town.paceFor(town.people.age[p], shoes, town.rainOn(town.today));
         }
 
         int walkMinutes(int p, int a, int b) {
@@ -1240,6 +1244,7 @@ public final class WalkingTown {
         int leftOut;
         int fund;
         final int[] purse;
+        final int[] shoes;
         final int[] came;
         final int[] walked;
         final int[] rides;
@@ -1261,6 +1266,7 @@ public final class WalkingTown {
             ways = new Ways(itsTown);
             law = itsTown.noLaw;
             purse = new int[People.MOST];
+            shoes = new int[People.MOST];
             came = new int[People.MOST];
             walked = new int[People.MOST];
             rides = new int[People.MOST];
@@ -1299,6 +1305,8 @@ public final class WalkingTown {
         private void readyPeople() {
             for (int p = 0; p < town.people.size; p++) {
                 purse[p] = town.people.purse[p];
+                shoes[p] = town.people.shoes[p];
+                ways.setPace(p, shoes[p]);
                 came[p] = NONE;
                 walked[p] = 0;
                 rides[p] = 0;
@@ -1378,10 +1386,21 @@ public final class WalkingTown {
             if (length >= Town.NEVER) {
                 return;
             }
-            walked[p] += length;
             int there = minute + ways.walkMinutes(p, corner, goal);
             if (t == NONE && there < MINUTES) {
                 came[p] = there;
+            }
+            walk(p, length);
+        }
+
+        /** SHOES wear when one sets out: this very walk was weighed in those ahead, a later one CHOOSES in what is left. */
+        private void walk(int p, int length) {
+            int ahead = town.people.walkedEver[p] + walked[p];
+            int worn = (ahead + length) / People.WEARING_WAY - ahead / People.WEARING_WAY;
+            walked[p] += length;
+            if (worn > 0) {
+                shoes[p] = Math.max(0, shoes[p] - worn);
+                ways.setPace(p, shoes[p]);
             }
         }
 
@@ -1531,15 +1550,13 @@ public final class WalkingTown {
             int end = came[p] == NONE ? MINUTES : came[p];
             int late = Math.max(0, end - people.begins[p]);
             int pay = Math.max(0, people.wage[p] - dock * (late / 10));
-            int ever = people.walkedEver[p] + walked[p];
-            int worn = ever / 300 - people.walkedEver[p] / 300;
             people.came[p] = came[p];
             people.late[p] = late;
             people.walked[p] = walked[p];
             people.rides[p] = rides[p];
             people.purse[p] = Math.min(purse[p] + pay, People.MOST_PURSE);
-            people.walkedEver[p] = ever;
-            people.shoes[p] = Math.max(0, people.shoes[p] - worn);
+            people.walkedEver[p] += walked[p];
+            people.shoes[p] = shoes[p];
         }
     }
 
@@ -1612,7 +1629,7 @@ public final class WalkingTown {
             int rain = town.rainOn(town.today);
             Arrays.fill(reach, 0L);
             for (int p = 0; p < town.people.size; p++) {
-                int pace = town.pace(p, rain);
+                int pace = Town.paceFor(town.people.age[p], town.people.shoes[p], rain);
                 for (int s = 0; s < town.stops; s++) {
                     int length = town.roads.between(town.people.home[p], town.corners[s]);
                     if (Town.minutesFor(length, pace) <= minutes) {

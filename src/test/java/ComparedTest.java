@@ -29,7 +29,8 @@ public final class ComparedTest {
         for (long seed = first; seed <= last; seed++) {
             ComparedTest test = new ComparedTest(seed);
             test.run = "run " + seed + ": ";
-            test.lead();
+            if (seed % 5 == 0) test.leadWearing();
+            else test.lead();
         }
         DUE.end();
     }
@@ -65,6 +66,43 @@ public final class ComparedTest {
         if (up(3) > 0) law();
         if (up(2) > 0) rain();
         while (calls < 500) anything();
+    }
+
+    /** Long ways, thin SHOES, TRIPS that often fail and one MORNING behind the other: SHOES wear on the way. */
+    private void leadWearing() {
+        for (int i = 1; i < 8; i++) {
+            int length = 20 + up(40);
+            is("street", town.street(i - 1, i, length), plain.street(i - 1, i, length));
+        }
+        for (int i = 0; i < 8; i++) is("stop", town.stop(i), plain.stop(i));
+        for (int i = 0; i < 6; i++) wheel();
+        for (int i = 0; i < 40; i++) longTrip();
+        for (int i = 0; i < 8; i++) {
+            numbers(up(200), 300 + up(400), 10 + up(60), 1 + up(2), up(9), up(2));
+            int home = up(3), work = 5 + up(3), wage = up(90);
+            is("person", town.person(home, work, wage), plain.person(home, work, wage));
+        }
+        give();
+        while (calls < 500) {
+            is("next", town.next(1), plain.next(1));
+            tried();
+            is("morning", town.morning(), plain.morning());
+            for (int p = 0; p < 8 && calls < 500; p++) {
+                is("came of " + p, ofTown(p, 0), ofPlain(p, 0));
+                is("SHOES of " + p, ofTown(p, 5), ofPlain(p, 5));
+            }
+        }
+    }
+
+    private void longTrip() {
+        int w = up(6), from = up(8), to = (from + 1 + up(7)) % 8, minute = 100 + up(500);
+        is("trip", town.trip(w, from, to, minute, 0, 99), plain.trip(w, from, to, minute, 0, 99));
+    }
+
+    private void numbers(int... row) {
+        int[] pairs = new int[2 * row.length];
+        for (int i = 0; i < pairs.length; i++) pairs[i] = (i % 2 == 0 ? row[i / 2] >> 8 : row[i / 2]) & 255;
+        bytes(pairs);
     }
 
     private void anything() {

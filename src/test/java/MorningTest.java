@@ -9,6 +9,9 @@ public final class MorningTest {
         oncePerDay();
         wages();
         shoes();
+        shoesWornOnTheWay();
+        shoesWornTwice();
+        shoesWornByDays();
         setOutIsWalked();
         riding();
         likeWays();
@@ -169,6 +172,102 @@ public final class MorningTest {
         }
         DUE.is("all walked", town.of(1, 6), 897);
         DUE.is("in SHOES 1 at first, then without", town.of(2, 0), 810);
+    }
+
+    /** HOME at 0, and a STOP so far from it as told; WORK a mile (or two) behind it, and a TRIP there in MINUTE 540. */
+    private static WalkingTown longWay(int toStop, int wheelAt, int cents) {
+        WalkingTown town = new WalkingTown();
+        int[] lengths = {99, 99, 99, toStop - 297, 10, 10};
+        for (int i = 0; i < lengths.length; i++) {
+            town.street(i, i + 1, lengths[i]);
+        }
+        for (int corner = 4; corner <= 6; corner++) {
+            town.stop(corner);
+        }
+        town.wheel(0, wheelAt, 4, -1);
+        town.wheel(0, 2, 4, -1);
+        town.trip(0, 0, 1, 540, 0, 9);
+        if (cents > 0) {
+            town.give(cents);
+        }
+        return town;
+    }
+
+    private static void shod(WalkingTown town, int work, int begins, int shoes) {
+        Due.numbers(town, 0, begins, 30, shoes, 0, 0);
+        town.person(0, work, 0);
+    }
+
+    private static void shoesWornOnTheWay() {
+        WalkingTown town = longWay(300, 1, 0);
+        shod(town, 5, 562, 2);
+        shod(town, 5, 561, 2);
+        shod(town, 5, 558, 3);
+        DUE.is("on time in worn SHOES", town.tried(1), 2);
+        DUE.is("nothing is worn that was tried", town.of(0, 5), 2);
+        DUE.is("tried again", town.tried(1), 2);
+        DUE.is("morning()", town.morning(), 2);
+        person("a trip fails", town, 0, 562, 0, 310, 0, 0, 1, 310);
+        person("one late", town, 1, 562, 1, 310, 0, 0, 1, 310);
+        person("SHOES 2 go as well as 3", town, 2, 558, 0, 310, 0, 0, 2, 310);
+        WalkingTown nearer = longWay(299, 1, 0);
+        shod(nearer, 5, 700, 2);
+        nearer.morning();
+        person("one tenth less", nearer, 0, 558, 0, 309, 0, 0, 1, 309);
+        WalkingTown ridden = longWay(300, 0, 20);
+        shod(ridden, 6, 700, 2);
+        ridden.morning();
+        person("gets out in worn SHOES", ridden, 0, 565, 0, 310, 1, 0, 1, 310);
+        WalkingTown missed = longWay(300, 1, 0);
+        missed.trip(1, 1, 2, 560, 0, 9);
+        shod(missed, 6, 700, 2);
+        shod(missed, 6, 700, 3);
+        missed.morning();
+        person("too slow for the next trip", missed, 0, 584, 0, 320, 0);
+        person("in time for it", missed, 1, 578, 0, 320, 0, 0, 2, 320);
+    }
+
+    /** 300 to one STOP, and a way of 300 more behind it. */
+    private static void shoesWornTwice() {
+        WalkingTown town = new WalkingTown();
+        int[] lengths = {99, 99, 99, 3, 99, 99, 99, 3, 10};
+        for (int i = 0; i < lengths.length; i++) {
+            town.street(i, i + 1, lengths[i]);
+        }
+        town.stop(4);
+        town.stop(8);
+        town.wheel(2, 1, 4, -1);
+        town.trip(0, 0, 1, 600, 0, 9);
+        for (int shoes = 0; shoes < 4; shoes++) {
+            Due.numbers(town, 0, 719, 30, shoes, 9, 0);
+            town.person(0, 9, 0);
+        }
+        town.morning();
+        int[] left = {0, 0, 0, 1};
+        for (int p = 0; p < left.length; p++) {
+            person("worn twice", town, p, -1, 121, 610, 0, 90, left[p], 610);
+        }
+    }
+
+    /** 90 a DAY; the fourth DAY's walk to the STOP makes 307 of 270. */
+    private static void shoesWornByDays() {
+        WalkingTown town = new WalkingTown();
+        town.street(0, 1, 37);
+        town.street(1, 2, 53);
+        town.stop(1);
+        town.stop(2);
+        town.wheel(0, 1, 1, -1);
+        town.trip(0, 0, 1, 218, 0, 9);
+        Due.numbers(town, 132, 275, 23, 1, 0, 0);
+        town.person(0, 2, 0);
+        int[] came = {335, 335, 335, 362, 375};
+        int[] left = {1, 1, 1, 0, 0};
+        for (int day = 0; day < came.length; day++) {
+            town.morning();
+            DUE.is("came on DAY " + day, town.of(0, 0), came[day]);
+            DUE.is("SHOES on DAY " + day, town.of(0, 5), left[day]);
+            town.next(1);
+        }
     }
 
     private static void setOutIsWalked() {

@@ -14,6 +14,8 @@ final class PlainMorning {
         PlainTown.Trip goal;
         int wheel = -1;
         int purse;
+        int shoes;
+        int ever;
         int came = -1;
         int walked;
         int rides;
@@ -47,6 +49,8 @@ final class PlainMorning {
             x.number = walkers.size();
             x.p = p;
             x.purse = p.purse;
+            x.shoes = p.shoes;
+            x.ever = p.ever;
             walkers.add(x);
         }
         for (PlainTown.Wheel w : town.wheels) {
@@ -103,7 +107,7 @@ final class PlainMorning {
 
     /** All ways are gone through one by one. */
     private int bestFrom(Walker x, int stop, int minute) {
-        int best = minute + PlainTown.up(town.length(town.stops.get(stop), x.p.work), town.pace(x.p));
+        int best = minute + PlainTown.up(town.length(town.stops.get(stop), x.p.work), town.pace(x.p, x.shoes));
         for (PlainTown.Trip t : today) {
             if (t.from == stop && t.minute >= minute && heard(x, t)) {
                 best = Math.min(best, byTrip(x, t));
@@ -128,7 +132,7 @@ final class PlainMorning {
 
     private void choose(Walker x, int corner, int minute, int earliest) {
         known = new int[town.trips.size()];
-        int pace = town.pace(x.p);
+        int pace = town.pace(x.p, x.shoes);
         int best = minute + PlainTown.up(town.length(corner, x.p.work), pace);
         PlainTown.Trip first = null;
         for (PlainTown.Trip t : today) {
@@ -145,7 +149,11 @@ final class PlainMorning {
         }
         int goal = first == null ? x.p.work : town.stops.get(first.from);
         int length = town.length(corner, goal);
-        x.walked += length;
+        for (int tenth = 0; tenth < length; tenth++) {
+            x.walked++;
+            x.ever++;
+            if (x.ever % 300 == 0 && x.shoes > 0) x.shoes--;
+        }
         x.doing = Doing.WALKING;
         x.there = minute + PlainTown.up(length, pace);
         arrive(x, minute);
@@ -207,10 +215,8 @@ final class PlainMorning {
             x.p.walked = x.walked;
             x.p.rides = x.rides;
             x.p.purse = Math.min(100000, x.purse + Math.max(0, x.p.wage - x.p.late / 10 * dock));
-            for (int i = 0; i < x.walked; i++) {
-                x.p.ever++;
-                if (x.p.ever % 300 == 0 && x.p.shoes > 0) x.p.shoes--;
-            }
+            x.p.ever = x.ever;
+            x.p.shoes = x.shoes;
         }
         for (Car c : cars) {
             c.w.coin = c.coin;

@@ -220,11 +220,11 @@ final class PlainTown {
         return answer[0];
     }
 
-    int pace(Person p) {
+    int pace(Person p, int shoes) {
         int pace = 18 + wet(today);
         for (int age = 50; age <= p.age; age += 10) pace++;
-        if (p.shoes == 1) pace += 4;
-        if (p.shoes == 0) pace += 9;
+        if (shoes == 1) pace += 4;
+        if (shoes == 0) pace += 9;
         return pace;
     }
 
@@ -279,7 +279,7 @@ final class PlainTown {
         boolean[][] near = new boolean[people.size()][stops.size()];
         for (int p = 0; p < near.length; p++) {
             for (int s = 0; s < stops.size(); s++) {
-                near[p][s] = up(length(people.get(p).home, stops.get(s)), pace(people.get(p))) <= minutes;
+                near[p][s] = up(length(people.get(p).home, stops.get(s)), pace(people.get(p), people.get(p).shoes)) <= minutes;
             }
         }
         int best = -1;
