@@ -1393,7 +1393,7 @@ public final class WalkingTown {
             walk(p, length);
         }
 
-        /** SHOES wear when one sets out: this very walk was weighed in those ahead, a later one CHOOSES in what is left. */
+        /** SHOES wear when one sets out, so this walk is timed ahead of it, and a later CHOOSE goes by the new pace. */
         private void walk(int p, int length) {
             int ahead = town.people.walkedEver[p] + walked[p];
             int worn = (ahead + length) / People.WEARING_WAY - ahead / People.WEARING_WAY;

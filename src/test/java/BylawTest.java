@@ -12,6 +12,7 @@ public final class BylawTest {
         inForce();
         plainAnswers();
         lines();
+        ridersAreAsGiven();
         facts();
         conds();
         wrongAsking();
@@ -230,6 +231,21 @@ public final class BylawTest {
         DUE.is("stop of a car", town.told(0, 1, 0, 0), 1);
         DUE.is("why", town.why(), 3);
         DUE.is("why again", town.why(), 3);
+    }
+
+    /** told() asks with so many riders as it is given, of carry, fare and gas too. */
+    private static void ridersAreAsGiven() {
+        WalkingTown town = three();
+        Due.law(town, 0, "carry not if riders>1;stop if riders>1;fare 2 if riders>1;hold 3 if riders>1;"
+                + "fine 4 if riders>1;gas 5 if riders>1;");
+        int[] few = {1, 0, 0, 15, 500, 20};
+        int[] many = {0, 1, 2, 3, 4, 5};
+        for (int what = 0; what < 6; what++) {
+            DUE.is("with 1 rider: " + what, town.told(0, what, 1, 0), few[what]);
+            DUE.is("why", town.why(), -1);
+            DUE.is("with 2 riders: " + what, town.told(0, what, 2, 0), many[what]);
+            DUE.is("why", town.why(), what);
+        }
     }
 
     private static void holds(String cond, int trip, int riders, int times, boolean due) {

@@ -17,6 +17,7 @@ public final class MorningTest {
         likeWays();
         drivingTimes();
         likeCorners();
+        changesAtOneStop();
         changing();
         heldAndMissed();
         gone();
@@ -369,6 +370,27 @@ public final class MorningTest {
         DUE.is("is there a minute later", town.rode(1), 1);
         DUE.is("the one seat is taken", town.rode(2), 1);
         DUE.is("wheeled(0, 3)", town.wheeled(0, 3), 1);
+    }
+
+    /** TRIPS go on from the STOP to which the one ahead drove, not from another STOP of its CORNER. */
+    private static void changesAtOneStop() {
+        for (int changes = 0; changes < 2; changes++) {
+            WalkingTown town = row(2, 50);
+            int twin = town.stop(1);
+            int from = changes == 1 ? 1 : twin;
+            town.wheel(2, 0, 1, -1);
+            town.wheel(2, from, 1, -1);
+            town.wheel(2, 0, 1, -1);
+            town.trip(0, 0, 1, 10, 0, 0);
+            town.trip(1, from, 2, 30, 0, 0);
+            town.trip(2, 0, 2, 40, 0, 0);
+            Due.person(town, 0, 2, 0, 5, 700, 10);
+            town.morning();
+            person("STOPS of one CORNER", town, 0, changes == 1 ? 45 : 70, 0, 0, changes == 1 ? 2 : 1);
+            DUE.is("the first of two TRIPS", town.rode(0), changes);
+            DUE.is("the second", town.rode(1), changes);
+            DUE.is("the one all the way", town.rode(2), 1 - changes);
+        }
     }
 
     private static void changing() {
