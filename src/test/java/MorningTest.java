@@ -37,6 +37,7 @@ public final class MorningTest {
         lastMinuteOnFoot();
         manyWays();
         fullTown();
+        fullTownStopped();
         DUE.end();
     }
 
@@ -803,5 +804,27 @@ public final class MorningTest {
         }
         DUE.is("rides of persons and of trips", rides, left);
         DUE.is("somebody rode", rides > 40, true);
+    }
+
+    private static void fullTownStopped() {
+        WalkingTown town = row(1, 99);
+        for (int w = 0; w < 20; w++) {
+            town.wheel(2, 0, 2, -1);
+            town.trip(w, 0, 1, 30 + w, 0, 0);
+        }
+        for (int p = 0; p < 40; p++) {
+            Due.person(town, 0, 1, 0, 30, 719, 60);
+        }
+        Due.law(town, 0, "stop;fine 21 if from=0;");
+        DUE.is("morning()", town.morning(), 40);
+        for (int w = 0; w < 20; w++) {
+            DUE.is("stopped", town.wheeled(w, 0), 1);
+            DUE.is("gone", town.wheeled(w, 1), 1);
+            DUE.is("two fares are kept", town.wheeled(w, 2), 20);
+            DUE.is("fails", town.rode(w), -2);
+        }
+        for (int p = 0; p < 40; p++) {
+            person("walks at last", town, p, 49 + 179, 0, 99, 0, p < 2 ? 400 : 600);
+        }
     }
 }

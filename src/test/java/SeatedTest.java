@@ -10,6 +10,7 @@ public final class SeatedTest {
         order();
         shared();
         five();
+        eightApart();
         DUE.end();
     }
 
@@ -150,5 +151,28 @@ public final class SeatedTest {
         }
         DUE.is("forty", seat(town, 200, 4, 3, 2, 1, 0), 40);
         at(town, 3, 4, 5, 6, 7);
+    }
+
+    /** Each STOP has those of its own CORNER alone: the more, the higher its number. */
+    private static void eightApart() {
+        WalkingTown town = new WalkingTown();
+        for (int i = 0; i < 8; i++) {
+            town.stop(i);
+        }
+        for (int i = 0; i < 36; i++) {
+            int corner = 0;
+            for (int rest = i; rest > corner; rest -= corner) {
+                corner++;
+            }
+            Due.person(town, corner, 0, 0, 0, 0, 0);
+        }
+        int[] seats = {9, 1, 9, 5};
+        for (int s : seats) {
+            town.wheel(0, 0, s, -1);
+        }
+        DUE.is("9, 1, 9, 5", seat(town, 200, 0, 1, 2, 3), 21);
+        at(town, 6, 0, 7, 4);
+        DUE.is("1 alone", seat(town, 200, 1), 1);
+        at(town, 0);
     }
 }

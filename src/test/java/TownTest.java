@@ -265,6 +265,11 @@ public final class TownTest {
         DUE.is("one day", town.rain(), true);
         DUE.is("wet(0)", town.wet(0), 5);
         DUE.is("wet(1) behind the end", town.wet(1), 9);
+        town.feed(4 << 24 | 7 << 16 | 77 << 8, 0, 0, 0, 0);
+        town.end(2);
+        DUE.is("what was cut off is not looked at", town.rain(), true);
+        DUE.is("wet(1)", town.wet(1), 7);
+        DUE.is("wet(2) behind the end", town.wet(2), 9);
     }
 
     private static void fund() {
