@@ -11,6 +11,12 @@ public final class SeatedTest {
         shared();
         five();
         eightApart();
+        manyToOne();
+        seatsAndPersons();
+        asShoesAreNow();
+        minutesAtTheirEnds();
+        latestThatWasNotNone();
+        nobodyNear();
         DUE.end();
     }
 
@@ -174,5 +180,111 @@ public final class SeatedTest {
         at(town, 6, 0, 7, 4);
         DUE.is("1 alone", seat(town, 200, 1), 1);
         at(town, 0);
+    }
+
+    /** "as many as one likes to one"; where a WHEEL has its BASE, and what MORNINGS do with it, is nothing to it. */
+    private static void manyToOne() {
+        WalkingTown town = row(1, 2, 3, 1, 2, 9);
+        for (int i = 0; i < 9; i++) {
+            Due.person(town, 2, 0, 0, 0, 0, 0);
+        }
+        DUE.is("five at one STOP", seat(town, 0, 0, 1, 2, 3, 4), 9);
+        at(town, 2, 2, 2, 2, 2);
+        DUE.is("one of 9 does as well: the others at the first STOP", seat(town, 0, 0, 1, 5, 3, 4), 9);
+        at(town, 0, 0, 2, 0, 0);
+        town.morning();
+        DUE.is("behind the MORNING", seat(town, 0, 4), 2);
+        at(town, 2);
+    }
+
+    /** "each in one, no more in it than SEATS". */
+    private static void seatsAndPersons() {
+        for (int seats = 1; seats <= 9; seats++) {
+            WalkingTown town = row(seats);
+            for (int i = 0; i <= seats; i++) {
+                DUE.is("PERSONS " + i + " of SEATS " + seats, seat(town, 0, 0), Math.min(i, seats));
+                at(town, i == 0 ? 0 : 1);
+                Due.person(town, 1, 0, 0, 0, 0, 0);
+            }
+            DUE.is("one more than SEATS " + seats, seat(town, 0, 0), seats);
+        }
+    }
+
+    /** 300 on foot take one of SHOES 1: 22 MINUTES a mile ahead of it, 27 behind it. */
+    private static void asShoesAreNow() {
+        WalkingTown town = row(1);
+        int[] lengths = {99, 99, 99, 3};
+        for (int i = 0; i < lengths.length; i++) {
+            town.street(2 + i, 3 + i, lengths[i]);
+        }
+        Due.numbers(town, 0, 0, 30, 1, 0, 0);
+        town.person(1, 6, 0);
+        for (int worn = 0; worn < 2; worn++) {
+            int mile = worn == 0 ? 22 : 27;
+            DUE.is("SHOES", town.of(0, 5), 1 - worn);
+            DUE.is("a MINUTE less", seat(town, mile - 1, 0), 1);
+            at(town, 1);
+            DUE.is("a mile", seat(town, mile, 0), 1);
+            at(town, 0);
+            town.morning();
+        }
+    }
+
+    /** "no more than a told number of MINUTES of walking"; 0 to 200. */
+    private static void minutesAtTheirEnds() {
+        WalkingTown town = new WalkingTown();
+        town.street(0, 1, 99);
+        town.street(1, 2, 12);
+        town.stop(2);
+        town.wheel(0, 0, 1, -1);
+        Due.person(town, 0, 0, 0, 0, 0, 0);
+        DUE.is("111 tenths take 200", seat(town, 199, 0), 0);
+        at(town, 0);
+        DUE.is("111 tenths take 200", seat(town, 200, 0), 1);
+        at(town, 0);
+        town.street(0, 2, 98);
+        DUE.is("98 tenths take 177", seat(town, 176, 0), 0);
+        DUE.is("98 tenths take 177", seat(town, 177, 0), 1);
+    }
+
+    /** "by the latest seated() that was not NONE; NONE: there is none such, or ahead of any". */
+    private static void latestThatWasNotNone() {
+        WalkingTown town = row(1, 1, 1);
+        Due.person(town, 1, 0, 0, 0, 0, 0);
+        Due.person(town, 2, 0, 0, 0, 0, 0);
+        for (int k = -1; k <= 5; k++) {
+            DUE.is("seatedAt(" + k + ") ahead of any", town.seatedAt(k), -1);
+        }
+        DUE.is("three", seat(town, 0, 2, 0, 1), 2);
+        at(town, 0, 1, 2);
+        DUE.is("none at all", seat(town, 0), -1);
+        at(town, 0, 1, 2);
+        DUE.is("one", seat(town, 0, 2), 1);
+        at(town, 1);
+        DUE.is("seatedAt(2) was of the one ahead", town.seatedAt(2), -1);
+        DUE.is("MINUTES 201", seat(town, 201, 2, 0), -1);
+        at(town, 1);
+        DUE.is("seatedAt(MAX)", town.seatedAt(Integer.MAX_VALUE), -1);
+        DUE.is("seatedAt(MIN)", town.seatedAt(Integer.MIN_VALUE), -1);
+        Due.person(town, 2, 0, 0, 0, 0, 0);
+        Due.person(town, 2, 0, 0, 0, 0, 0);
+        town.stop(0);
+        at(town, 1);
+    }
+
+    /** Of like ones the first, though nobody is seated in any. */
+    private static void nobodyNear() {
+        WalkingTown town = row(1, 2);
+        Due.numbers(town, 0, 0, 30, 5, 0, 0);
+        town.person(2, 0, 0);
+        DUE.is("at the last STOP", seat(town, 0, 1), 1);
+        at(town, 2);
+        WalkingTown later = row(1, 2);
+        later.street(1, 5, 1);
+        Due.person(later, 5, 0, 0, 0, 0, 0);
+        DUE.is("a tenth from STOP 1", seat(later, 2, 1, 0), 1);
+        at(later, 0, 1);
+        DUE.is("a MINUTE less", seat(later, 1, 1, 0), 0);
+        at(later, 0, 0);
     }
 }
