@@ -907,7 +907,7 @@ public final class WalkingTown {
                 if (bytes[at] == 32 || bytes[at] == 10) {
                     at++;
                 } else {
-                    int behind = endOfToken(bytes, at, size);
+                    int behind = Math.max(at + 1, endOfWord(bytes, at, size));
                     addToken(classify(bytes, at, behind), at, numberAt(bytes, at, behind));
                     at = behind;
                 }
@@ -932,12 +932,12 @@ public final class WalkingTown {
             return b >= '0' && b <= '9';
         }
 
-        private static int endOfToken(int[] bytes, int at, int size) {
+        private static int endOfWord(int[] bytes, int at, int size) {
             int behind = at;
             while (behind < size && (isLetter(bytes[behind]) || isDigit(bytes[behind]))) {
                 behind++;
             }
-            return Math.max(behind, at + 1);
+            return behind;
         }
 
         private static Token classify(int[] bytes, int at, int behind) {
