@@ -671,9 +671,14 @@ public final class WalkingTown {
         /** What a BY-LAW tells of a TRIP; the LINE that told it is kept. No text tells of a TAXI's gas. */
         int ask(Law law, int trip, int what, int riders, int times) {
             boolean taxi = wheels.kind[trips.wheel[trip]] == Wheels.TAXI;
-            setFacts(trip, riders, times);
+            setFacts(trip, isAskedEmpty(what) ? 0 : riders, times);
             line = what == Law.GAS && taxi ? NONE : law.lineFor(what, facts);
             return line == NONE ? plainValue(taxi, what) : law.values[line];
+        }
+
+        /** These are asked before anybody gets in, so nobody is in it, whoever asks. */
+        private static boolean isAskedEmpty(int what) {
+            return what == Law.CARRY || what == Law.FARE || what == Law.GAS;
         }
 
         private static int plainValue(boolean taxi, int what) {

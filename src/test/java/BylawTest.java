@@ -12,7 +12,9 @@ public final class BylawTest {
         inForce();
         plainAnswers();
         lines();
-        ridersAreAsGiven();
+        ridersWhereNobodyIsIn();
+        nobodyIsInThere();
+        timesAreAsGiven();
         facts();
         conds();
         wrongAsking();
@@ -233,17 +235,55 @@ public final class BylawTest {
         DUE.is("why again", town.why(), 3);
     }
 
-    /** told() asks with so many riders as it is given, of carry, fare and gas too. */
-    private static void ridersAreAsGiven() {
+    /** "riders: how many are in it (0, where it is asked whether it may carry, and of fare and gas)". */
+    private static void ridersWhereNobodyIsIn() {
         WalkingTown town = three();
         Due.law(town, 0, "carry not if riders>1;stop if riders>1;fare 2 if riders>1;hold 3 if riders>1;"
                 + "fine 4 if riders>1;gas 5 if riders>1;");
         int[] few = {1, 0, 0, 15, 500, 20};
-        int[] many = {0, 1, 2, 3, 4, 5};
+        int[] many = {1, 1, 0, 3, 4, 20};
+        int[] line = {-1, 1, -1, 3, 4, -1};
         for (int what = 0; what < 6; what++) {
             DUE.is("with 1 rider: " + what, town.told(0, what, 1, 0), few[what]);
             DUE.is("why", town.why(), -1);
-            DUE.is("with 2 riders: " + what, town.told(0, what, 2, 0), many[what]);
+            for (int riders : new int[] {2, 3, 9, 10, Integer.MAX_VALUE}) {
+                DUE.is("with " + riders + " riders: " + what, town.told(0, what, riders, 0), many[what]);
+                DUE.is("why", town.why(), line[what]);
+            }
+            DUE.is("riders below 0 all the same: " + what, town.told(0, what, -1, 0), -1);
+        }
+    }
+
+    /** A COND that just 0 riders meet holds of carry, fare and gas, however many are given. */
+    private static void nobodyIsInThere() {
+        for (String nobody : new String[] {"riders=0", "riders<1", "not riders>0", "car and(riders<1 or taxi)"}) {
+            WalkingTown town = three();
+            String cond = " if " + nobody + ";";
+            Due.law(town, 0, "carry not" + cond + "stop" + cond + "fare 2" + cond + "hold 3" + cond + "fine 4" + cond
+                    + "gas 5" + cond);
+            int[] none = {0, 1, 2, 3, 4, 5};
+            int[] some = {0, 0, 2, 15, 500, 5};
+            int[] line = {0, -1, 2, -1, -1, 5};
+            for (int what = 0; what < 6; what++) {
+                DUE.is(nobody + " with none: " + what, town.told(0, what, 0, 0), none[what]);
+                DUE.is("why", town.why(), what);
+                DUE.is(nobody + " with 3: " + what, town.told(0, what, 3, 0), some[what]);
+                DUE.is("why", town.why(), line[what]);
+            }
+        }
+    }
+
+    /** Only riders are 0 there: times are those that are given, whatever is asked. */
+    private static void timesAreAsGiven() {
+        WalkingTown town = three();
+        Due.law(town, 0, "carry not if times>1;stop if times>1;fare 2 if times>1;hold 3 if times>1;"
+                + "fine 4 if times>1;gas 5 if times>1;");
+        int[] few = {1, 0, 0, 15, 500, 20};
+        int[] many = {0, 1, 2, 3, 4, 5};
+        for (int what = 0; what < 6; what++) {
+            DUE.is("stopped once: " + what, town.told(0, what, 5, 1), few[what]);
+            DUE.is("why", town.why(), -1);
+            DUE.is("stopped twice: " + what, town.told(0, what, 5, 2), many[what]);
             DUE.is("why", town.why(), what);
         }
     }

@@ -201,8 +201,9 @@ final class PlainTown {
 
     int[] ask(PlainLaw law, Trip t, int what, int riders, int times) {
         Wheel w = wheels.get(t.wheel);
+        boolean ofRiders = what == 1 || what == 3 || what == 4;
         int[] facts = {w.kind == 0 ? 1 : 0, w.kind == 1 ? 1 : 0, w.kind == 2 ? 1 : 0, today <= w.insured ? 1 : 0,
-            riders, w.seats, wet(today), t.minute, today, t.from, t.to, times};
+            ofRiders ? riders : 0, w.seats, wet(today), t.minute, today, t.from, t.to, times};
         int[] plain = {1, 0, w.kind == 2 ? 10 : 0, 15, 500, w.kind == 2 ? 0 : 20};
         if (what == 5 && w.kind == 2) return new int[] {0, -1};
         for (int i = 0; i < law.lines.size(); i++) {
